@@ -85,6 +85,7 @@ public final class PromisesTest {
         p37();
         p38();
         p40();
+        full();
         System.out.println(wrong == 0 ? "all promises hold" : wrong + " answers are not as due");
         if (wrong != 0) {
             System.exit(1);
@@ -221,6 +222,12 @@ public final class PromisesTest {
         due("nothing of it", x.count(3), 1);
         due("nothing of it", x.man(0, 2), 8);
         due("nothing of it", x.ship(0, 1), 10);
+        due("from what is, not from a thought", say(x, "v03;"), 1);
+        due("TIDE", x.count(2), 0);
+        due("HEARD", x.count(3), 1);
+        x.spree(0);
+        due("from what is, not from a thought", say(x, "w01;"), 1);
+        due("HEARD", x.count(3), 1);
     }
 
     private static void p4() {
@@ -555,6 +562,9 @@ public final class PromisesTest {
         AnchorsForConfession w = told("s2;mh410;mh410;mh490;");
         due("two words", w.fewest(0, 0), 2);
         due("of several the least", w.fewest(0, 1), 0);
+        AnchorsForConfession u = told("s9;mh090;mh090;mh090;mh090;");
+        due("31 words", u.fewest(0, 0), 31);
+        due("31 words", u.fewest(0, 1), 0);
         // HEARD stays in thought: 9 heard, the tenth word holds no more
         AnchorsForConfession v = told("s2;mp090;mh910;");
         for (int i = 0; i < 9; i++) {
@@ -638,6 +648,7 @@ public final class PromisesTest {
         due("stays", y.man(2, 3), 1);
         AnchorsForConfession z = told("s0;mh990;mh990;t0;");
         due("none is in", z.berth(1), -9);
+        due("onto the first", told("s0;s9;mh311;").berth(0), 0);
     }
 
     private static void p19() {
@@ -686,8 +697,12 @@ public final class PromisesTest {
         due("no men", new AnchorsForConfession().hush(), 0);
         AnchorsForConfession y = told("s0;mh310;");
         due("all it has", y.hush(), 1);
+        say(y, "mh310;");
+        due("as much without him", y.hush(), 0);
         y.sins(0, 0);
-        due("can not with him", y.hush(), 0);
+        due("the other is all it has", y.hush(), 2);
+        y.sins(1, 0);
+        due("can not with them", y.hush(), 0);
     }
 
     private static void p22() {
@@ -752,6 +767,10 @@ public final class PromisesTest {
         x.tells(0);
         due("out", x.keep(1), -3);
         due("in mind alone", x.count(2), 1);
+        AnchorsForConfession z = told("s0;mh910;");
+        due("it rises now, too", z.keep(0), 1);
+        z.turn(0, 0, 2);
+        due("it rises at ebb alone", z.keep(0), 0);
         AnchorsForConfession y = told("w60;".repeat(16) + "w39;");
         say(y, "s3;mh390;");
         due("TIDE above 999 in thought", y.keep(0), 1);
@@ -846,9 +865,12 @@ public final class PromisesTest {
         AnchorsForConfession y = told("s0;s0;ma910;mb911;w01;");
         due("the admiral lifts all", y.two(0, 1), 10);
         due("the other way about", y.two(1, 0), 1);
-        // matching and not: the first wants the other's word, the other wants none
         AnchorsForConfession z = told("s0;s0;mh310;mb911;");
-        due("no other", z.two(0, 1), 10);
+        due("he lifts his own", z.two(0, 1), 10);
+        // the first is lifted by his own word or the other's, the other by both words, first's ahead
+        AnchorsForConfession w = told("s0;s4;ma910;ma311;w01;");
+        due("no pair", w.two(0, 1), -9);
+        due("the other ahead", w.two(1, 0), 1);
     }
 
     private static void p30() {
@@ -911,6 +933,9 @@ public final class PromisesTest {
         say(x, "s0;mh000;mh000;mh000;mh000;");
         due("no sins", x.mean(0), 0);
         due("no sins", x.mean(1), 1);
+        AnchorsForConfession y = told("s0;mh090;");
+        due("9 by 1", y.mean(0), 9);
+        due("9 by 1", y.mean(1), 1);
         x.sins(1, 6);
         due("3 by 2", x.mean(0), 3);
         due("3 by 2", x.mean(1), 2);
@@ -1128,5 +1153,45 @@ public final class PromisesTest {
             due("count(" + what + ")", x.count(what), -9);
         }
         due("none of these is counted", x.count(12), 2);
+    }
+
+    /** As many SHIPS and MEN as there can be. */
+    private static void full() {
+        promise = "a full harbour";
+        AnchorsForConfession x = told("s0;s0;s0;s0;s0;mh310;mh311;mh312;mh313;mh314;mh320;mh321;mh001;");
+        due("fixture", x.fixture(), 0);
+        due("cheapest", x.cheapest(), 0);
+        due("rise", x.rise(), 5);
+        due("deal", x.deal(), -9);
+        due("hush", x.hush(), 28);
+        due("loudest", x.loudest(1), 1);
+        due("spree", x.spree(0), 5);
+        due("spree", x.spree(1), 5);
+        due("richest", x.richest(0), 5);
+        due("blameless", x.blameless(), 0);
+        due("missing", x.missing(), 0);
+        due("berth", x.berth(7), -9);
+        due("crew", x.ship(1, 6), 194);
+        due("whoTold", x.whoTold(), 127);
+        row(x, 4, 4, 4, 4, 4);
+        due("judge", x.judge(), -9);
+        row(x, 98, 0, 0, 0, 0);
+        due("whoTold", x.whoTold(), 33);
+        row(x, 0, 0, 0, 0, 98);
+        due("whatIs", x.whatIs(4, 1), 1016);
+        row(x, 0, 0, 0, 0, 0, 0);
+        due("whoTold", x.whoTold(), 0);
+        due("when", x.when(4, 1), 0);
+        due("sinsThen", x.sinsThen(7, 60), 0);
+        due("shipThen", x.shipThen(4, 60, 1), 4);
+        due("storm", x.storm(4, 2, 20, 1), 20);
+        due("mean", x.mean(0), 9);
+        due("mean", x.mean(1), 8);
+        due("count(5)", x.count(5), 9);
+        due("count(4)", x.count(4), 0);
+        due("tells", x.tells(4), 1);
+        due("count(4)", x.count(4), 16);
+        due("lots", x.lots(20, 1, 0) > 0 ? 1 : 0, 1);
+        due("tides", x.tides(60), 0);
     }
 }
