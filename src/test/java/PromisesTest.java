@@ -1160,6 +1160,7 @@ public final class PromisesTest {
         promise = "a full harbour";
         AnchorsForConfession x = told("s0;s0;s0;s0;s0;mh310;mh311;mh312;mh313;mh314;mh320;mh321;mh001;");
         due("fixture", x.fixture(), 0);
+        due("fewest", x.fewest(4, 1), 4);
         due("cheapest", x.cheapest(), 0);
         due("rise", x.rise(), 5);
         due("deal", x.deal(), -9);
