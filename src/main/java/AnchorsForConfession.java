@@ -259,10 +259,10 @@ public final class AnchorsForConfession {
 
     public int cheapest() {
         int best = NONE;
-        int least = Integer.MAX_VALUE;
+        int least = NONE;
         for (int s = 0; s < now.ships; s++) {
             int words = now.isIn(s) ? now.fewestWords(s) : NONE;
-            if (words != NONE && words < least) {
+            if (words != NONE && (best == NONE || words < least)) {
                 least = words;
                 best = s;
             }
@@ -1165,11 +1165,13 @@ public final class AnchorsForConfession {
 
     /** Draws that follow one another from a seed. */
     private static final class Lot {
+        static final int ALL_BUT_SIGN = 0x7fffffff;
+
         int seed = 0;
 
         int drawBelow(int m) {
             seed = seed * 1664525 + 1013904223;
-            return m > 0 ? (seed & Integer.MAX_VALUE) / 256 % m : 0;
+            return m > 0 ? (seed & ALL_BUT_SIGN) / 256 % m : 0;
         }
     }
 }

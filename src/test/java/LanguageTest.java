@@ -15,6 +15,12 @@ public final class LanguageTest {
         "\\bSystem\\.(?!arraycopy)", "\\bObject\\b", "\\bhashCode\\b", "\\bMath\\.random\\b", "\\bwhile \\(true\\)",
         "for \\(;;\\)", "\\bstatic \\{", "\"[^\"]*\" \\+", "\\+ \"", "\\btoString\\b",
     };
+    /** What rule 4 lists of the classes whose members the text names by the class. */
+    private static final Pattern OF_LIBRARY =
+        Pattern.compile("\\b(Integer|Long|Math|String|StringBuilder|Arrays|System|List|ArrayList)\\.(\\w+)(\\(?)");
+    private static final List<String> LISTED = List.of(
+        "compare", "max", "min", "abs", "bitCount", "floorDiv", "floorMod", "arraycopy", "copyOf", "copyOfRange",
+        "fill", "of");
     private static int wrong = 0;
 
     private static void say(String text) {
@@ -27,6 +33,7 @@ public final class LanguageTest {
         String code = source.replaceAll("(?s)/\\*.*?\\*/", "").replaceAll("//[^\n]*", "");
         signs(source);
         banned(code);
+        library(code);
         methods(code.split("\n", -1));
         System.out.println(wrong == 0 ? "the language is kept" : wrong + " faults");
         if (wrong != 0) {
@@ -51,6 +58,16 @@ public final class LanguageTest {
         }
         if (code.split("\\bclass ", -1).length - 1 > 12) {
             say("more than 12 classes");
+        }
+    }
+
+    /** Constants of the library, Integer.MAX_VALUE among them, are not listed: functions alone are. */
+    private static void library(String code) {
+        Matcher m = OF_LIBRARY.matcher(code);
+        while (m.find()) {
+            if (!LISTED.contains(m.group(2)) || m.group(3).isEmpty()) {
+                say("not listed: " + m.group() + " at line " + code.substring(0, m.start()).split("\n", -1).length);
+            }
         }
     }
 
